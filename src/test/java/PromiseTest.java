@@ -278,6 +278,16 @@ public final class PromiseTest {
         due("3/7", shown(x, 4), "e:3,4,7");
         due("refused", readText(x, "row 0 4;row 6 0;copy 6 0;copy 0 6;cut 0 1;spread 0 0 0 1"), 0);
         due("a full row", readText(x, "row 0 0" + ";add 0 1".repeat(11)), 12);
+        String longer = "spread 0 0 1 2;copy 1 0";
+        for (int end = 0; end < longer.length(); end++) {
+            RisingRows y = new RisingRows();
+            due("the longer one", readText(y, longer), 2);
+            due("no sign of an earlier text", readText(y, longer.substring(0, end)), end == 14 ? 1 : -10 - end);
+        }
+        RisingRows z = new RisingRows();
+        readText(z, "add 0 12");
+        due("no digit of an earlier text", readText(z, "add 0 1"), 1);
+        due("its own one", shown(z, 0), "s:12,1");
         due("a full row", readText(x, "add 0 7" + ";add 0 1".repeat(11)), 5);
     }
 
@@ -366,6 +376,8 @@ public final class PromiseTest {
             worthCase("0/1", kind);
         }
         worthCase("none", 0, BILLION, 999999999);
+        worthCase("1391/76218750", 0, 125000, 99999, 3999960);
+        worthCase("none", 0, 3999960, 99999, 125000);
         worthCase("1/500000000", 0, BILLION, BILLION);
         worthCase("none", 1, 5, BILLION);
         worthCase("1/999999999", 1, BILLION, 999999999);
@@ -425,6 +437,9 @@ public final class PromiseTest {
         greaterCase(2, 2, ns(2, 4), ns(2, 5));
         greaterCase(2, 3, ns(2, 4), ns(2, 5));
         greaterCase(1, 2, ns(2, 4, 6), ns(2, 4, 7));
+        greaterCase(2, 2, ns(2, 4, 6, 8), ns(2, 4, 6, 9));
+        greaterCase(2, 2, ns(2, 4, 6, 8), ns(2, 4, 6));
+        greaterCase(1, 2, ns(2, 4, 6, 8, 11), ns(2, 4, 6, 8));
         RisingRows x = with(1, 2);
         due("unlike kinds", x.greater(0, 1), RisingRows.STATE);
         due("itself", x.greater(0, 0), 0);
@@ -472,6 +487,10 @@ public final class PromiseTest {
         due("neither has", beginningShown(with(0, 2, 0), 2, 0), "none");
         due("the row has", beginningShown(with(2, 50000, 50001), 2, 0), "1/50001");
         due("wide", beginningShown(with(2, 50000, 50001), 1, 1), "none");
+        RisingRows w = with(0, 125000, 99999, 3999960);
+        due("the row has", beginningShown(w, 3, 0), "1391/76218750");
+        due("its beginning has none", beginningShown(w, 2, 0), "none");
+        due("nor is it short by that", beginningShown(w, 2, 1), "none");
         due("wide below", with(2, 50000, 50001).beginning(0, 1, 1, 1), NO);
         int[][] no = {{6, 0, 0, 0}, {-1, 0, 0, 0}, {0, 4, 0, 0}, {0, -1, 0, 0}, {0, 0, 2, 0}, {0, 0, -1, 0}, {0, 0, 0, 2}, {0, 0, 0, -1}};
         for (int[] a : no) {
@@ -549,6 +568,8 @@ public final class PromiseTest {
         due("the other one isn't so", x.fits(0, 0, 0), 0);
         due("none", x.fits(0, 0, 1), -5);
         due("99", x.fits(1, 0, 1), 99);
+        x.see(0, 3, 4);
+        due("row 0 isn't so", x.fits(1, 0, 0), 0);
         x.see(-1, 0, 0);
         x.see(1, 1, 100);
         due("100 isn't tried", x.fits(1, 0, 1), -5);
@@ -589,6 +610,9 @@ public final class PromiseTest {
         due("none is above what has none", oddsShown(x, 0, 2), "1/4");
         due("what has none is not above", oddsShown(x, 2, 0), "0/1");
         due("always", oddsShown(x, 4, 0), "1/1");
+        due("one of each", oddsShown(x, 4, 4), "0/1");
+        x.spread(5, 1, 65535, 65536);
+        due("16 of each", oddsShown(x, 5, 5), "15/32");
         due("no numbers", oddsShown(x, 0, 3), "none");
         due("no numbers either", oddsShown(x, 3, 0), "none");
         int[][] no = {{6, 0, 0}, {-1, 0, 0}, {0, 6, 0}, {0, -1, 0}, {0, 0, 2}, {0, 0, -1}};
@@ -664,6 +688,10 @@ public final class PromiseTest {
         due("none to go", y.after(5, 0), 0);
         y.event(2, 5);
         due("the next kind", y.after(5, 2), 1);
+        y.spread(4, 1, 65535, 65536);
+        y.event(1, 4);
+        due("16 of them", y.after(4, 0), 16);
+        due("each 1 more", y.after(4, 1), -5);
         int[][] none = {{6, 0}, {-1, 0}, {0, 3}, {0, -1}};
         for (int[] a : none) {
             due("no such", y.after(a[0], a[1]), RisingRows.NONE);
@@ -819,14 +847,19 @@ public final class PromiseTest {
             due("most", x.tape(5, sort, 60), 1);
             due("the last one is 0", x.peek(5, 59), 0);
             due("no more", x.peek(5, 60), NO);
-            x.item(5, 59, 1);
+            for (int i = 0; i < 60; i++) {
+                x.item(5, i, 1);
+            }
             due("anew", x.tape(5, sort, 60), 1);
-            due("all 0", x.peek(5, 59), 0);
+            for (int i = 0; i < 60; i++) {
+                due("all 0", x.peek(5, i), 0);
+            }
         }
         due("none of it", x.tape(5, 2, 0), 1);
         due("no place", x.item(5, 0, 1), -13);
         due("nothing", x.tape(5, -1, LEAST), 1);
         due("nothing there", x.item(5, 0, 1), -11);
+        due("nothing to peek at", x.peek(5, 0), NO);
         x.tape(0, 2, 3);
         x.item(0, 2, 9);
         due("sort 5", x.tape(0, 5, 1), RisingRows.BAD);
