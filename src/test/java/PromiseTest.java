@@ -212,6 +212,12 @@ public final class PromiseTest {
         due("2/999999999", shown(x, 3), "p:499999999,999999999");
         due("broken off", x.works(2, 4, 4, 0), 0);
         due("what came stays", shown(x, 2), "s:");
+        RisingRows y = with(0, BILLION);
+        for (int kind = 0; kind < 3; kind++) {
+            y.begin(2, kind);
+            due("the most that a number may be", y.works(2, 0, 1, 0), 1);
+            due("it", y.of(2, 0), BILLION);
+        }
         int[][] none = {{6, 0, 0, 0}, {-1, 0, 0, 0}, {0, 6, 0, 0}, {0, -1, 0, 0}, {0, 0, 6, 0}, {0, 0, -1, 0}, {0, 0, 0, 3}, {0, 0, 0, -1}};
         for (int[] a : none) {
             due("no such", x.works(a[0], a[1], a[2], a[3]), RisingRows.NONE);
