@@ -847,9 +847,11 @@ public final class PromiseTest {
         due("far", x.count(LEAST), RisingRows.BAD);
     }
 
+    /** A new object for each sort: none is made for more than 512 calls. */
     private static void tape() {
         RisingRows x = new RisingRows();
         for (int sort = 0; sort < 5; sort++) {
+            x = new RisingRows();
             due("most", x.tape(5, sort, 60), 1);
             due("the last one is 0", x.peek(5, 59), 0);
             due("no more", x.peek(5, 60), NO);
