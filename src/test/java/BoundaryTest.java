@@ -18,7 +18,7 @@ import java.util.Map;
 public final class BoundaryTest {
     private static final Path SENTENCES = Path.of("src/test/boundaries.txt");
     private static final Path DOCUMENT = Path.of("../shared/DOC.md");
-    private static final int MOST_CALLS = 512;
+    private static final int MOST_CALLS = 512, MOST_TOLD = 60;
     private static final long NO = Long.MIN_VALUE;
     private static final String KINDS = "sepc";
     private static final List<String> SORTS = List.of("bytes", "shorts", "ints", "longs", "booleans");
@@ -339,7 +339,7 @@ public final class BoundaryTest {
             System.out.println("the document isn't there to be held against");
         }
         if (tell) {
-            test.complaints.forEach(System.out::println);
+            test.complaints.stream().limit(MOST_TOLD).forEach(System.out::println);
             System.out.println(test.checks + " checks of " + test.sentences + " sentences, "
                     + test.complaints.size() + " complaints");
         }
