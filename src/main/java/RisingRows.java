@@ -13,7 +13,7 @@ public final class RisingRows {
     private static final int NOTHING = -11, CAST = -12, PLACE = -13, SIZE = -14;
 
     private static final int ROWS = 6, KINDS = 4, MOST_NUMBERS = 16;
-    private static final int WIDEST = 1000000000;
+    private static final int WIDEST = 1000000000, DIGITS_OF_WIDEST = 10;
     private static final int SYLVESTER = 0, ENGEL = 1, PIERCE = 2;
     private static final String KIND_LETTERS = "sepc";
 
@@ -894,7 +894,7 @@ public final class RisingRows {
 
         private static int digitsIn(int v) {
             int digits = 1;
-            for (int rest = v / 10; rest > 0; rest /= 10) {
+            for (int rest = v / 10; digits < DIGITS_OF_WIDEST && rest > 0; rest /= 10) {
                 digits++;
             }
             return digits;

@@ -168,12 +168,28 @@ public final class LanguageTest {
         }
     }
 
+    /** Rule 9, as far as lines tell it: a counter stands against a bound, and is stepped in the loop. */
+    private static void loopsHaveAnEnd(String code) {
+        Matcher loop = Pattern.compile("(?m)^( *)(for|while|do)\\b(.*?)\\{\\n(.*?)^\\1\\}", Pattern.DOTALL).matcher(code);
+        int from = 0;
+        while (loop.find(from)) {
+            boolean ends = false;
+            Matcher bound = Pattern.compile("(\\w+) (<|<=|>=) \\w").matcher(loop.group(3));
+            while (bound.find()) {
+                ends |= Pattern.compile("\\b" + bound.group(1) + "(\\+\\+|--)").matcher(loop.group()).find();
+            }
+            must(ends, "a loop without a counter: " + loop.group(2) + loop.group(3).trim());
+            from = loop.end(3);
+        }
+    }
+
     public static void main(String[] args) throws IOException {
         String source = Files.readString(SOURCE);
         faceIsTheDocuments();
         classesAreSmall();
         wordsAreAllowed(withoutComments(source));
         methodsAreShort(source);
+        loopsHaveAnEnd(withoutComments(source));
         System.out.println(wrong == 0 ? "the language's rules that can be looked at are kept" : wrong + " rules are broken");
         if (wrong != 0) {
             System.exit(1);
